@@ -81,7 +81,7 @@ public final class PromiseTest {
         x.keep(5, 0);
     }
 
-    /** Two THINGS of plain STRENGTHS: THING t is of 4 (t + 1) in TASTE t, for t 0 .. 3. */
+    /** THING t has a STRENGTH in TASTE t alone: 4, 8, 3, 4 for t 0 .. 3. */
     private static SoupCourt plain() {
         SoupCourt x = new SoupCourt();
         for (int t = 0; t < 4; t++) {
