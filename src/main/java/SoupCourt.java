@@ -9,10 +9,13 @@ public final class SoupCourt {
 
     private static final int NOTHING_THERE = -11, OTHER_KIND = -12, NO_PLACE = -13, SIZE_BELOW_0 = -14;
     private static final int FINE = 0;
+    private static final long NO_ELEMENT = -9223372036854775808L;
 
     private static final int THING_KINDS = 8, TASTE_KINDS = 5, MOST_OF_A_THING = 9;
     private static final int MOST_HOUSES = 6, MOST_SHELVES = 6;
     private static final int LONGEST_THOUGHT = 60, LONGEST_SEARCH = 10;
+    // more than two soups can be FAR and than pots can take
+    private static final int ABOVE_ALL = 1000;
 
     // what mend() and of() tell of
     private static final int STRENGTH = 0, HAS = 1, KEEN = 2, WHICH = 3, FIRE = 4;
@@ -491,7 +494,7 @@ public final class SoupCourt {
     }
 
     public long element(int shelf, int i) {
-        return placeRefused(shelf, i) == FINE ? shelves[shelf].elements[i] : Long.MIN_VALUE;
+        return placeRefused(shelf, i) == FINE ? shelves[shelf].elements[i] : NO_ELEMENT;
     }
 
     private int placeRefused(int shelf, int i) {
@@ -1057,7 +1060,7 @@ public final class SoupCourt {
 
         /** How FAR the nearest MIX is (k below 0), or how much of THING k is in it. */
         int nearestMix(int[] has, int house, int n, int k) {
-            int least = Integer.MAX_VALUE;
+            int least = ABOVE_ALL;
             int leastAll = 0;
             int nearest = 0;
             for (int code = 0; code < NEAREST_MIXES; code++) {
@@ -1311,7 +1314,7 @@ public final class SoupCourt {
                 return NOT;
             }
             Arrays.fill(busy, 0);
-            least = Integer.MAX_VALUE;
+            least = ABOVE_ALL;
             layOn(0, fires, 0);
             return j < 0 ? least : leastWay[j];
         }
