@@ -377,7 +377,7 @@ public final class SoupCourt {
             return STATE;
         }
         scene.pot.weigh(kitchen.strength);
-        scene.pot.pass(kitchen.law, kitchen.fire);
+        scene.pot.pass(0, TASTE_KINDS - 1, kitchen.law, kitchen.fire);
         scene.led[MINUTES]++;
         return scene.pot.minutes;
     }
@@ -955,13 +955,8 @@ public final class SoupCourt {
             }
         }
 
-        /** One MINUTE of a POT that has been weighed. */
-        void pass(Law law, int fire) {
-            passFor(0, TASTE_KINDS - 1, law, fire);
-        }
-
-        /** One MINUTE as far as it is wanted to know: no TASTE's growth hangs on another one. */
-        void passFor(int first, int last, Law law, int fire) {
+        /** One MINUTE of a POT that has been weighed, for the TASTES asked for: no TASTE's growth hangs on another one. */
+        void pass(int first, int last, Law law, int fire) {
             for (int taste = first; taste <= last; taste++) {
                 tastes[taste] = law.grown(sums[taste], tastes[taste], minutes, fire, taste, all);
             }
@@ -1048,7 +1043,7 @@ public final class SoupCourt {
             int least = pot.farFrom(soup);
             int which = 0;
             for (int n = 1; n <= LONGEST_THOUGHT; n++) {
-                pot.pass(law, fire);
+                pot.pass(0, TASTE_KINDS - 1, law, fire);
                 int far = pot.farFrom(soup);
                 if (far < least) {
                     least = far;
@@ -1177,7 +1172,7 @@ public final class SoupCourt {
                 to.things[deed]++;
             }
             to.weigh(strength);
-            to.pass(law, fire);
+            to.pass(0, TASTE_KINDS - 1, law, fire);
             return true;
         }
 
@@ -1189,7 +1184,7 @@ public final class SoupCourt {
                 pot.begin();
                 for (int m = 0; m < minutes; m++) {
                     z = z * 1103515245 + 12345;
-                    pot.passFor(firstOf(taste), lastOf(taste), law, (z >>> 8) % 10);
+                    pot.pass(firstOf(taste), lastOf(taste), law, (z >>> 8) % 10);
                 }
                 sum += pot.sumOfTastes(firstOf(taste), lastOf(taste));
             }

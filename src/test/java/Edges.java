@@ -32,6 +32,7 @@ class Edges {
     }
 
     private static final Map<String, String> PARTS = partsOfTheDocument();
+    // of each part, the signs that stand in a sentence some test holds
     private static final Map<String, BitSet> HELD = new HashMap<>();
     // what names a boundary in a sentence
     private static final Pattern BOUNDARY = Pattern.compile(
@@ -39,7 +40,6 @@ class Edges {
         + "|\\bwraps?\\b|\\b[Nn]one\\b|\\bnothing\\b|\\b[Nn]o\\b|\\blacks\\b|\\bends\\b|\\bmissing\\b|\\bby 0\\b|\\bheld\\b|\\bstays\\b"
         + "|\\bcut\\b|\\bis above\\b|\\bas long as\\b|\\bempty\\b|\\bone or more\\b|\\bof like ones\\b|\\btoo early\\b|\\b1 to 4\\b"
         + "|\\bat once\\b|\\bare kept\\b|\\bas they are\\b|\\bas they all were\\b|\\bpoured away\\b|\\blowest bits\\b|\\bwithin\\b");
-    // each sentence's boundaries must stand within words that a test says that it holds
     private static String sentence = "";
     private static int sentences = 0, checks = 0, wrong = 0;
 

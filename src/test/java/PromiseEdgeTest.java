@@ -83,6 +83,11 @@ public final class PromiseEdgeTest extends Edges {
         refused(State.MIDST, "the HOUSE that comes next", BAD, c -> c.things(0, 0, 301));
         refused(State.NEW, "no HOUSE", BAD, c -> c.things(0, 0, 1));
         farOff("hn", (c, v) -> c.things(0, 0, v));
+        for (int house = 0; house < 6; house++) {
+            for (int n = 1; n <= 20; n += 19) {
+                thingsOfOneHouse(house, n);
+            }
+        }
 
         sentence("Promise 4", "BAD, -12 (no ROW of bytes; a SHELF that holds nothing is missing).");
         shelfEdges("things()", (c, v) -> c.things(v, 0, 1));
@@ -98,6 +103,22 @@ public final class PromiseEdgeTest extends Edges {
             refusedBehind(c -> c.row(2, other, 2), "a ROW of sort " + sort, OTHER_KIND, c -> c.things(2, 0, 1));
         }
         refused("BAD comes first", BAD, c -> c.things(4, 0, 0));
+    }
+
+    /** SHELF 0's ROW tells 30 times that there is so much of THING 0; one HOUSE of six HAS n-th much of it then. */
+    private static void thingsOfOneHouse(int house, int n) {
+        SoupCourt x = new SoupCourt();
+        x.row(0, 0, 60);
+        for (int i = 0; i < 30; i++) {
+            x.put(0, 2 * i + 1, i % 9 + 1);
+        }
+        for (int h = 0; h < 6; h++) {
+            x.house();
+        }
+        due("things() of HOUSE " + house, x.things(0, 0, 100 * house + n), n);
+        for (int h = 0; h < 6; h++) {
+            due("HAS by HOUSE " + h + " behind " + n + " told of " + house, x.of(10 * h, 1), h == house ? (n - 1) % 9 + 1 : 0);
+        }
     }
 
     // ---- numbers
@@ -135,6 +156,12 @@ public final class PromiseEdgeTest extends Edges {
 
     /** The bounds of the numbers that mend() and of() have in common. */
     private static void numbersOf(Numbered call) {
+        for (int what = 0; what < 5; what++) {
+            int of = what;
+            for (int number : new int[] {-1, -4, -9, -10, -11, 80, 100}) {
+                bad("number " + number + " of " + what, c -> call.on(c, number, of));
+            }
+        }
         edges("THING's STRENGTH", 0, 7, (c, v) -> call.on(c, 10 * v, 0));
         edges("STRENGTH's TASTE of THING 7", 0, 4, (c, v) -> v < 0 ? call.on(c, 69, 0) : call.on(c, 70 + v, 0));
         for (int taste = 5; taste < 10; taste++) {
@@ -191,6 +218,20 @@ public final class PromiseEdgeTest extends Edges {
         x.feed('9');
         due("a new TAPE begins empty", x.law(), 1);
         due("THE LAW", x.taste(0, 1, 0), 9);
+        nothingStaysOfAnOlderLaw();
+    }
+
+    private static void nothingStaysOfAnOlderLaw() {
+        String[] older = {"0?1;0?2;3;4", "!!!!!!7", "-(-(-7))", "1?2?", "5-4-3-2-1+((((((0))))))", "7/0%0*0", "1;2;3;4;5;6"};
+        for (String old : older) {
+            for (String text : new String[] {"8", "0?1;8", "9-1", "1?8", "2*(3+1)", "!!4*8"}) {
+                SoupCourt x = new SoupCourt();
+                x.row(0, 0, 0);
+                lawOf(x, old);
+                due(text + " behind " + old, lawOf(x, text), 1);
+                due(text + " behind " + old + " gives", x.taste(0, 1, 0), 8);
+            }
+        }
     }
 
     // ---- pots in thought
@@ -214,6 +255,16 @@ public final class PromiseEdgeTest extends Edges {
         sentence("Promise 11", "how FAR (k -1), how much of THING k (0 .. 3).");
         edgesOfAll("k", -1, 3, (c, v) -> c.nearest(1, 0, v));
         hnEdges("nearest()", (c, v) -> c.nearest(1, v, 0));
+        SoupCourt x = sixHouses();
+        bytes(x, 0, 0, 0, 0, 0, 9, 9, 9, 9);
+        bytes(x, 1, all(20));
+        for (int house = 0; house < 6; house++) {
+            int[] most = {0, 1, 2, 2 + 1, 2 + 2, 2 + 2 + 1};
+            due("a MIX of THINGS that nearest() leaves out", x.taste(0, 1, 0), 20);
+            due("behind a minute, HOUSE " + house, x.nearest(1, 100 * house + 1, -1), 5 * (20 - most[house]));
+            due("how much of THING 1, HOUSE " + house, x.nearest(1, 100 * house + 1, 1), Math.max(0, Math.min(2, house - 2)));
+            due("behind two minutes, HOUSE " + house, x.nearest(1, 100 * house + 2, -1), 5 * (20 - 2 * most[house]));
+        }
         sentence("Promise 11", "BAD, -11, -12 (no ROW of bytes).");
         rowOfBytesEdges("nearest()", (c, v) -> c.nearest(v, 210, 0));
         soupEdges("nearest()", c -> c.nearest(2, 210, 0));
@@ -234,6 +285,19 @@ public final class PromiseEdgeTest extends Edges {
         refused(State.MIDST, what + ": the HOUSE that comes next", BAD, c -> call.on(c, 300));
         refused(State.NEW, what + ": no HOUSE", BAD, c -> call.on(c, 0));
         farOff(what + ": hn", call);
+    }
+
+    /** Six HOUSES, each HAS one more of a THING than the one ahead, 9 of THING 7; a minute gives as much as is in. */
+    private static SoupCourt sixHouses() {
+        SoupCourt x = withLaw("w");
+        for (int house = 0; house < 6; house++) {
+            x.house();
+            for (int thing = 0; thing < 4; thing++) {
+                x.mend(10 * house + thing, 1, Math.max(0, Math.min(3, house - 2 * thing)));
+            }
+            x.mend(10 * house + 7, 1, 9);
+        }
+        return x;
     }
 
     private static void apart() {
@@ -297,6 +361,17 @@ public final class PromiseEdgeTest extends Edges {
             }
         }
         refused(State.MIDST, "how many of none", 0, c -> c.inHouse(1, 0, 0));
+        SoupCourt y = sixHouses();
+        bytes(y, 0, 0, 0, 0, 0, 9, 9, 9, 9);
+        for (int house = 0; house < 6; house++) {
+            int[] most = {0, 1, 2, 3 + 1, 3 + 2, 3 + 3 + 1};
+            bytes(y, 1, all(most[house]));
+            due("a MIX of THINGS that inHouse() leaves out", y.taste(0, 1, 0), 20);
+            due("all that HOUSE " + house + " HAS", y.inHouse(1, 100 * house + 1, 0), 1);
+            due("of THING 0", y.inHouse(1, 100 * house + 1, 10), Math.min(3, house));
+            bytes(y, 1, all(most[house] + 1));
+            due("one more than HOUSE " + house + " HAS", y.inHouse(1, 100 * house + 1, 0), 0);
+        }
         rowOfBytesEdges("inHouse()", (c, v) -> c.inHouse(v, 0, 0));
         farOff("SHELF", (c, v) -> c.inHouse(v, 0, 0));
         soupEdges("inHouse()", c -> c.inHouse(2, 0, 0));

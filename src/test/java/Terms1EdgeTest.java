@@ -420,6 +420,12 @@ public final class Terms1EdgeTest extends Edges {
         gives("-!-!-!0", -1);
         gives("(-(!(-0)))", -1);
         gives("(((((7)))))+((((((7))))))", 14);
+        // in each E of a LINE, and in each LINE
+        gives("((((((1))))))?------7", 7);
+        gives("!!!!!!0?9;((((((7))))))", 7);
+        faultAt(6, "(((((((1)))))))?7", "-------1");
+        faultAt(8, "1?(((((((7", "1?!!!!!!!7");
+        faultAt(10, "0?9;-(-(-((7");
         // what has ended is open no more
         gives("-----7+------7", 0);
         gives("(-----7)+------7", 0);

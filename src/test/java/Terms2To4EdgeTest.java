@@ -229,11 +229,30 @@ public final class Terms2To4EdgeTest extends Edges {
         dues("each of five tells two", x, (c, v) -> c.jury(0, v), 5, 1 + 2 + 4 + 8 + 32);
         x.mend(5, 3, 24);
         dues("one tells two by each of two TASTES", x, (c, v) -> c.jury(0, v), 4, 1 + 2 + 4 + 32);
+        for (int one = 0; one < 6; one++) {
+            for (int other = one + 1; other < 6; other++) {
+                twoOfSixAlike(one, other);
+            }
+        }
         SoupCourt y = new SoupCourt();
         bytes(y, 0, starOfSoups(2));
         dues("no NOSES, two soups", y, (c, v) -> c.jury(0, v), NOT, NOT);
         bytes(y, 0, starOfSoups(1));
         dues("no NOSES, one soup", y, (c, v) -> c.jury(0, v), 0, 0);
+    }
+
+    private static void twoOfSixAlike(int one, int other) {
+        SoupCourt x = new SoupCourt();
+        x.nose(1);
+        int[] row = new int[30];
+        for (int i = 0; i < 6; i++) {
+            row[5 * i + 2] = i;
+        }
+        bytes(x, 0, row);
+        dues("six unlike soups", x, (c, v) -> c.jury(0, v), 1, 1);
+        row[5 * other + 2] = one;
+        bytes(x, 0, row);
+        dues("soups " + one + " and " + other + " alike", x, (c, v) -> c.jury(0, v), NOT, NOT);
     }
 
     private static void juryOfLikeOnes() {
@@ -681,6 +700,7 @@ public final class Terms2To4EdgeTest extends Edges {
         due("two UNDONE leave room for two", x.count(3), 40);
         undoAll(x, 40);
         due("FIRE as at first", x.of(0, 4), 5);
+        manyOfAllNumbers();
     }
 
     /** FIRE is told, by numbers that follow one another. */
@@ -706,9 +726,36 @@ public final class Terms2To4EdgeTest extends Edges {
         due("FIRE ahead of those kept", x.of(0, 4), (5 + n - kept) % 10);
         for (int left = kept - 1; left >= 0; left--) {
             due("DONE AGAIN", x.redo(), left);
+            due("FIRE", x.of(0, 4), (5 + n - left) % 10);
         }
         due("no more is DONE AGAIN", x.redo(), STATE);
-        due("FIRE as told last", x.of(0, 4), (5 + n) % 10);
+    }
+
+    /** CHANGES of all five numbers, more than are kept: each step back and on shows the one that it is about. */
+    private static void manyOfAllNumbers() {
+        SoupCourt x = new SoupCourt();
+        x.house();
+        x.nose(1);
+        int[][] told = new int[47][];
+        int[] was = new int[47];
+        for (int i = 0; i < 47; i++) {
+            int[][] numbers = {{i % 40 / 5 * 10 + i % 5, 0}, {i % 8, 1}, {0, 2}, {0, 3}, {0, 4}};
+            int[] number = numbers[i * i % 11 % 5];
+            told[i] = number;
+            was[i] = x.of(number[0], number[1]);
+            due("what it was", x.mend(number[0], number[1], was[i] % 9 + 1), was[i]);
+            due("it becomes", x.of(number[0], number[1]), was[i] % 9 + 1);
+        }
+        for (int i = 46; i >= 7; i--) {
+            due("UNDONE", x.undo(), i - 7);
+            due("as it was ahead of CHANGE " + i, x.of(told[i][0], told[i][1]), was[i]);
+        }
+        due("no more is UNDONE", x.undo(), STATE);
+        for (int i = 7; i < 47; i++) {
+            due("DONE AGAIN", x.redo(), 46 - i);
+            due("as CHANGE " + i + " told", x.of(told[i][0], told[i][1]), was[i] % 9 + 1);
+        }
+        due("no more is DONE AGAIN", x.redo(), STATE);
     }
 
     private static void deedsAreNone() {
