@@ -1,19 +1,52 @@
 /** Promises 1 to 39 of the document: each sentence that names a boundary or a refusal, by a test of its own. */
 public final class PromiseEdgeTest extends Edges {
     public static void main(String[] args) {
-        newObject();
-        housesAndNoses();
-        numbers();
-        tapeAndLaw();
-        inThought();
-        inTheHouse();
-        factsAndPots();
-        tasting();
-        imagesAndChanges();
-        ladles();
-        rows();
-        taken();
-        count();
+        p01newObject();
+        p02house();
+        p02houseRefusals();
+        p03nose();
+        p04things();
+        p04thingsRefusals();
+        p05mend();
+        p06of();
+        p07feed();
+        p08law();
+        p09taste();
+        p09tasteRefusals();
+        p10best();
+        p11nearest();
+        p11nearestRefusals();
+        p12apart();
+        p13jury();
+        p14inHouse();
+        p15lent();
+        p16whoCould();
+        p17fires();
+        p18byTurns();
+        p19drawn();
+        p20fact();
+        p20factRefusals();
+        p21pot();
+        p22minute();
+        p23potOf();
+        p24spoon();
+        p24spoonRefusals();
+        p25led();
+        p26image();
+        p27back();
+        p28undo();
+        p29redo();
+        p30body();
+        p31act();
+        p32trace();
+        p33keep();
+        p34row();
+        p35put();
+        p36element();
+        p37shift();
+        p37shiftRefusals();
+        p38taken();
+        p39count();
         String[] promises = new String[39];
         for (int n = 1; n <= 39; n++) {
             promises[n - 1] = "Promise " + n;
@@ -27,7 +60,7 @@ public final class PromiseEdgeTest extends Edges {
 
     // ---- houses, noses
 
-    private static void newObject() {
+    private static void p01newObject() {
         sentence("Promise 1", "A court, no houses.");
         SoupCourt x = new SoupCourt();
         dues("nothing is there", x, SoupCourt::count, 0, 0, 0, 0, 0, 0);
@@ -43,7 +76,7 @@ public final class PromiseEdgeTest extends Edges {
         due("no HOUSE to be lent to", x.lent(0, 0), BAD);
     }
 
-    private static void housesAndNoses() {
+    private static void p02house() {
         sentence("Promise 2", "A HOUSE, its larder empty: its number.");
         SoupCourt x = new SoupCourt();
         for (int house = 0; house < 6; house++) {
@@ -53,13 +86,20 @@ public final class PromiseEdgeTest extends Edges {
                 x.mend(10 * house + thing, 1, 9);
             }
         }
+    }
+
+    private static void p02houseRefusals() {
         sentence("Promise 2", "FULL: 6.");
+        SoupCourt x = court(State.AT_ITS_ENDS);
         due("a 7th", x.house(), FULL);
         due("an 8th", x.house(), FULL);
         due("HOUSES", x.count(0), 6);
         refused(State.AT_ITS_ENDS, "house()", FULL, SoupCourt::house);
+    }
 
+    private static void p03nose() {
         sentence("Promise 3", "A NOSE: its number. BAD, FULL: 8.");
+        SoupCourt x = new SoupCourt();
         for (int nose = 0; nose < 8; nose++) {
             due("BAD", x.nose(51), BAD);
             due("its number", x.nose(50), nose);
@@ -69,10 +109,9 @@ public final class PromiseEdgeTest extends Edges {
         due("NOSES", x.count(1), 8);
         edgesOfAll("KEEN", 1, 50, SoupCourt::nose);
         refused(State.AT_ITS_ENDS, "nose()", FULL, c -> c.nose(50));
-        things();
     }
 
-    private static void things() {
+    private static void p04things() {
         sentence("Promise 4", "(hn: 100 times the HOUSE, and n 1 .. 20)");
         for (int house = 0; house < 3; house++) {
             int of = 100 * house;
@@ -88,7 +127,9 @@ public final class PromiseEdgeTest extends Edges {
                 thingsOfOneHouse(house, n);
             }
         }
+    }
 
+    private static void p04thingsRefusals() {
         sentence("Promise 4", "BAD, -12 (no ROW of bytes; a SHELF that holds nothing is missing).");
         shelfEdges("things()", (c, v) -> c.things(v, 0, 1));
         farOff("SHELF", (c, v) -> c.things(v, 0, 1));
@@ -123,7 +164,7 @@ public final class PromiseEdgeTest extends Edges {
 
     // ---- numbers
 
-    private static void numbers() {
+    private static void p05mend() {
         sentence("Promise 5", "STRENGTH (what 0; number 10 times the THING, and the TASTE), HAS (1; number 10 times the HOUSE, and the THING), KEEN (2), WHICH (3) of a NOSE, FIRE (4; number 0, else BAD) becomes v: what it was. BAD.");
         int[][] least = {{0, 0, 0}, {20, 1, 0}, {1, 2, 1}, {1, 3, 0}, {0, 4, 0}};
         int[] most = {9, 9, 50, 31, 9};
@@ -139,7 +180,9 @@ public final class PromiseEdgeTest extends Edges {
         }
         edgesOfAll("what", 0, 4, (c, v) -> c.mend(0, v, 7));
         numbersOf((c, number, what) -> c.mend(number, what, 7));
+    }
 
+    private static void p06of() {
         sentence("Promise 6", "As of mend() (0 to 4). BAD.");
         edgesOfAll("what", 0, 4, (c, v) -> c.of(0, v));
         numbersOf(SoupCourt::of);
@@ -184,7 +227,7 @@ public final class PromiseEdgeTest extends Edges {
 
     // ---- THE TAPE
 
-    private static void tapeAndLaw() {
+    private static void p07feed() {
         sentence("Promise 7", "A byte (0 .. 255) comes to THE TAPE: how many it has. BAD, FULL (120).");
         edgesOfAll("byte", 0, 255, SoupCourt::feed);
         SoupCourt x = new SoupCourt();
@@ -196,9 +239,12 @@ public final class PromiseEdgeTest extends Edges {
         due("BAD comes first", x.feed(-1), BAD);
         due("how many it has", x.count(2), 120);
         refused(State.AT_ITS_ENDS, "feed()", FULL, c -> c.feed('s'));
+    }
 
+    private static void p08law() {
         sentence("Promise 8", "THE TAPE becomes THE LAW: 1; -100 less its FAULT; THE TAPE is empty then.");
-        due("a FAULT at 1", x.law(), -101);
+        SoupCourt x = new SoupCourt();
+        due("a FAULT at 1", lawOf(x, "ss"), -101);
         due("THE TAPE is empty then", x.count(2), 0);
         due("an empty TAPE has its FAULT at 0", x.law(), -100);
         x.row(0, 0, 0);
@@ -236,22 +282,29 @@ public final class PromiseEdgeTest extends Edges {
 
     // ---- pots in thought
 
-    private static void inThought() {
+    private static void p09taste() {
         sentence("Promise 9", "A TASTE (0 .. 4; 5 all together) behind n minutes.");
         edgesOfAll("TASTE", 0, 5, (c, v) -> c.taste(0, 1, v));
         edgesOfAll("n", 0, 60, (c, v) -> c.taste(0, v, 5));
+    }
+
+    private static void p09tasteRefusals() {
         sentence("Promise 9", "BAD, -11, -12 (no ROW of bytes).");
         rowOfBytesEdges("taste()", (c, v) -> c.taste(v, 60, 5));
         refused("BAD by n comes first", BAD, c -> c.taste(3, 61, 0));
         refused("BAD by TASTE comes first", BAD, c -> c.taste(4, 0, 6));
+    }
 
+    private static void p10best() {
         sentence("Promise 10", "BEST: which (what 0), how FAR (1). BAD, -11, -12 (no ROW of bytes).");
         edgesOfAll("what", 0, 1, (c, v) -> c.best(1, v));
         rowOfBytesEdges("best() by the MIX", (c, v) -> c.best(10 * v + 1, 1));
         rowOfBytesEdges("best() by the soup", (c, v) -> c.best(10 + v, 1));
         refused("BAD by what comes first", BAD, c -> c.best(34, 2));
         refused("BAD by what comes first", BAD, c -> c.best(43, -1));
+    }
 
+    private static void p11nearest() {
         sentence("Promise 11", "how FAR (k -1), how much of THING k (0 .. 3).");
         edgesOfAll("k", -1, 3, (c, v) -> c.nearest(1, 0, v));
         hnEdges("nearest()", (c, v) -> c.nearest(1, v, 0));
@@ -265,13 +318,14 @@ public final class PromiseEdgeTest extends Edges {
             due("how much of THING 1, HOUSE " + house, x.nearest(1, 100 * house + 1, 1), Math.max(0, Math.min(2, house - 2)));
             due("behind two minutes, HOUSE " + house, x.nearest(1, 100 * house + 2, -1), 5 * (20 - 2 * most[house]));
         }
+    }
+
+    private static void p11nearestRefusals() {
         sentence("Promise 11", "BAD, -11, -12 (no ROW of bytes).");
         rowOfBytesEdges("nearest()", (c, v) -> c.nearest(v, 210, 0));
         soupEdges("nearest()", c -> c.nearest(2, 210, 0));
         refused("BAD by n comes first", BAD, c -> c.nearest(3, 11, 0));
         refused("BAD by k comes first", BAD, c -> c.nearest(4, 0, 4));
-        apart();
-        jury();
     }
 
     /** 100 times the HOUSE, and n 0 .. 10. */
@@ -300,7 +354,7 @@ public final class PromiseEdgeTest extends Edges {
         return x;
     }
 
-    private static void apart() {
+    private static void p12apart() {
         sentence("Promise 12", "BAD: ss, nose; -11, -12 (no ROW of bytes) of the one, then of the other; BAD: the one, then the other has not five such bytes.");
         edges(State.AT_ITS_ENDS, "nose", 0, 7, (c, v) -> c.apart(11, v));
         refused(State.MIDST, "the NOSE that comes next", BAD, c -> c.apart(11, 2));
@@ -332,7 +386,7 @@ public final class PromiseEdgeTest extends Edges {
         soupEdges("apart() by the other", c -> c.apart(12, 0));
     }
 
-    private static void jury() {
+    private static void p13jury() {
         sentence("Promise 13", "JURY: how many (what 0), which (1). BAD, -11, -12 (no ROW of bytes); NOT.");
         edgesOfAll("what", 0, 1, (c, v) -> c.jury(2, v));
         rowOfBytesEdges("jury()", (c, v) -> c.jury(v, 0));
@@ -346,7 +400,7 @@ public final class PromiseEdgeTest extends Edges {
 
     // ---- in the house
 
-    private static void inTheHouse() {
+    private static void p14inHouse() {
         sentence("Promise 14", "IN THE HOUSE (hn as of nearest()): how many (what 0), the least (1; NOT), the least of a THING (10 and the THING 0 .. 3; NOT), the most (20 and the THING; NOT).");
         hnEdges("inHouse()", (c, v) -> c.inHouse(1, v, 0));
         for (int what : new int[] {-1, 2, 9, 14, 19, 24, 30, 110, LOW, HIGH}) {
@@ -377,20 +431,23 @@ public final class PromiseEdgeTest extends Edges {
         soupEdges("inHouse()", c -> c.inHouse(2, 0, 0));
         refused("BAD by n comes first", BAD, c -> c.inHouse(3, 11, 0));
         refused("BAD by what comes first", BAD, c -> c.inHouse(4, 0, 2));
+    }
 
+    private static void p15lent() {
         sentence("Promise 15", "LENT: how many. NOT.");
         rowOfBytesEdges("lent()", (c, v) -> c.lent(v, 0));
         farOff("SHELF", (c, v) -> c.lent(v, 0));
         houseEdges("lent()", (c, v) -> c.lent(2, v));
         refused("BAD comes first", BAD, c -> c.lent(3, 6));
         refused(State.AT_ITS_ENDS, "lent() of 9 each, which no others HAVE", NOT, c -> c.lent(0, 1));
+    }
 
+    private static void p16whoCould() {
         sentence("Promise 16", "WHO COULD: bits.");
         rowOfBytesEdges("whoCould()", (c, v) -> c.whoCould(v));
         farOff("SHELF", SoupCourt::whoCould);
         due("each of six HAS nothing", court(State.AT_ITS_ENDS).whoCould(2), 63);
         due("none HAS 9 each", court(State.AT_ITS_ENDS).whoCould(0), 0);
-        firesAndTurns();
     }
 
     private static void houseEdges(String what, Of call) {
@@ -400,7 +457,7 @@ public final class PromiseEdgeTest extends Edges {
         farOff(what + ": HOUSE", call);
     }
 
-    private static void firesAndTurns() {
+    private static void p17fires() {
         sentence("Promise 17", "FIRES: the least time (j -1), the fire of the j-th (NOT: there are not as many).");
         rowOfBytesEdges("fires()", (c, v) -> c.fires(v, 1, -1));
         farOff("SHELF", (c, v) -> c.fires(v, 1, -1));
@@ -416,7 +473,9 @@ public final class PromiseEdgeTest extends Edges {
         refused("the first of none", NOT, c -> c.fires(2, 1, 0));
         refused("BAD by k comes first", BAD, c -> c.fires(2, 4, 0));
         refused("BAD by j comes first", BAD, c -> c.fires(3, 1, -2));
+    }
 
+    private static void p18byTurns() {
         sentence("Promise 18", "BY TURNS: how FAR (what 0), the first one's first (1).");
         edgesOfAll("what", 0, 1, (c, v) -> c.byTurns(1, 1, v));
         edgesOfAll("n", 1, 3, (c, v) -> c.byTurns(1, v, 1));
@@ -432,7 +491,9 @@ public final class PromiseEdgeTest extends Edges {
         refused("the MIX first, nothing", NOTHING, c -> c.byTurns(34, 1, 0));
         refused("the MIX first, another kind", OTHER_KIND, c -> c.byTurns(43, 1, 0));
         refused("the MIX first, then the soup that is none", NOTHING, c -> c.byTurns(32, 1, 0));
+    }
 
+    private static void p19drawn() {
         sentence("Promise 19", "DRAWN (nm: 100 n and m; the MIX on a SHELF): a TASTE, all (5).");
         edges("n", 1, 30, (c, v) -> c.drawn(0, 100 * v + 1, 0, 5));
         edges("m", 1, 40, (c, v) -> c.drawn(0, 2900 + v, 0, 5));
@@ -452,7 +513,7 @@ public final class PromiseEdgeTest extends Edges {
 
     // ---- in deed
 
-    private static void factsAndPots() {
+    private static void p20fact() {
         sentence("Promise 20", "A FACT (0 .. 3; ht: 100 times the HOUSE, 10 times the THING, and, if it is lent, the other HOUSE, else 0): how much the HOUSE HAS then.");
         edgesOfAll("FACT", 0, 3, (c, v) -> c.fact(v, v == 2 ? 2 : 0));
         edges(State.AT_ITS_ENDS, "HOUSE", 0, 5, (c, v) -> c.fact(3, 100 * v + 10));
@@ -473,7 +534,9 @@ public final class PromiseEdgeTest extends Edges {
         refused(State.MIDST, "lent to the HOUSE that comes next", BAD, c -> c.fact(2, 3));
         refused(State.AT_ITS_ENDS, "lent to HOUSE 9", BAD, c -> c.fact(2, 579));
         refused(State.AT_ITS_ENDS, "lent to itself", BAD, c -> c.fact(2, 575));
+    }
 
+    private static void p20factRefusals() {
         sentence("Promise 20", "BAD; STATE: it HAS none (0, 1, 2), or 9 (of the other one, if it is lent).");
         for (int kind = 0; kind < 3; kind++) {
             int of = kind;
@@ -489,10 +552,9 @@ public final class PromiseEdgeTest extends Edges {
         due("it HAS 9 again", x.of(10, 1), 9);
         due("the last one lent", x.fact(2, 250), 0);
         due("none is left", x.fact(2, 250), STATE);
-        pot();
     }
 
-    private static void pot() {
+    private static void p21pot() {
         sentence("Promise 21", "A POT is put on from a HOUSE by a MIX: how much is in. BAD, -11, -12; STATE: it HAS not so much.");
         rowOfBytesEdges("pot()", (c, v) -> c.pot(v, 0));
         farOff("SHELF", (c, v) -> c.pot(v, 0));
@@ -510,7 +572,9 @@ public final class PromiseEdgeTest extends Edges {
         dues("it HAS none then", x, (c, v) -> c.of(v, 1), 0, 0, 0, 0, 0, 0, 0, 0);
         x.row(2, 0, 0);
         due("nothing of one that HAS none", x.pot(2, 0), 0);
+    }
 
+    private static void p22minute() {
         sentence("Promise 22", "A MINUTE passes: MINUTES of the POT. STATE: there is none.");
         refused(State.NEW, "minute()", STATE, SoupCourt::minute);
         SoupCourt y = court(State.AT_ITS_ENDS);
@@ -519,7 +583,9 @@ public final class PromiseEdgeTest extends Edges {
         }
         due("a new POT", y.pot(2, 0), 0);
         due("its first MINUTE", y.minute(), 1);
+    }
 
+    private static void p23potOf() {
         sentence("Promise 23", "A TASTE of the POT (0 .. 4; 5 MINUTES, 6 how much is in). BAD; STATE: there is none.");
         bad("-1", c -> c.potOf(-1));
         bad("7", c -> c.potOf(7));
@@ -532,7 +598,7 @@ public final class PromiseEdgeTest extends Edges {
         dues("two MINUTES of 9, 72 in", court(State.AT_ITS_ENDS), SoupCourt::potOf, 18, 18, 18, 18, 18, 2, 72, BAD);
     }
 
-    private static void tasting() {
+    private static void p24spoon() {
         sentence("Promise 24", "A NOSE TASTES it: 1: it tells it from a told soup, 0.");
         SoupCourt x = court(State.AT_ITS_ENDS);
         due("KEEN 1, by 0 apart", x.row(1, 0, 5) + x.spoon(1, 7), 1);
@@ -548,7 +614,9 @@ public final class PromiseEdgeTest extends Edges {
         }
         due("tasted", x.led(3), 1 + 25);
         due("told apart", x.led(4), 10);
+    }
 
+    private static void p24spoonRefusals() {
         sentence("Promise 24", "BAD, -11, -12; STATE: there is none.");
         edges(State.AT_ITS_ENDS, "NOSE", 0, 7, (c, v) -> c.spoon(1, v));
         refused(State.MIDST, "the NOSE that comes next", BAD, c -> c.spoon(1, 2));
@@ -563,7 +631,9 @@ public final class PromiseEdgeTest extends Edges {
         refusedBehind(State.NEW, noPot, "no POT, shorts", OTHER_KIND, c -> c.spoon(4, 0));
         refusedBehind(State.NEW, noPot, "no POT, a LADLE", OTHER_KIND, c -> c.spoon(5, 0));
         refusedBehind(State.NEW, noPot, "no POT, no soup", BAD, c -> c.spoon(1, 0));
+    }
 
+    private static void p25led() {
         sentence("Promise 25", "LED: facts (what 0), pots (1), minutes (2), tasted (3), told apart (4). BAD.");
         edgesOfAll("what", 0, 4, SoupCourt::led);
         dues("at first", court(State.NEW), SoupCourt::led, 0, 0, 0, 0, 0, BAD);
@@ -572,7 +642,7 @@ public final class PromiseEdgeTest extends Edges {
         changesNothing("led()", c -> c.led(4));
     }
 
-    private static void imagesAndChanges() {
+    private static void p26image() {
         sentence("Promise 26", "AN IMAGE is kept: minutes.");
         SoupCourt x = new SoupCourt();
         due("at first", x.image(), 0);
@@ -591,7 +661,9 @@ public final class PromiseEdgeTest extends Edges {
         due("they don't end at 99", x.image(), 109);
         due("nor when it is laid back", x.back(), 109);
         due("MINUTES do", x.potOf(5), 99);
+    }
 
+    private static void p27back() {
         sentence("Promise 27", "It is laid back (HOUSES that came since as they are): minutes. STATE: there is none.");
         refused(State.NEW, "back()", STATE, SoupCourt::back);
         for (int kept = 0; kept < 6; kept++) {
@@ -613,19 +685,28 @@ public final class PromiseEdgeTest extends Edges {
             }
             due("no facts", y.led(0), 0);
         }
+    }
 
+    private static void p28undo() {
         sentence("Promise 28", "UNDONE: how many may still be. STATE: none.");
         refused(State.NEW, "undo()", STATE, SoupCourt::undo);
-        SoupCourt y = court(State.AT_ITS_ENDS);
-        dues("40 are kept", y, (c, v) -> c.undo(), countdown(39));
-        due("none", y.undo(), STATE);
-        refusedBehind(State.MIDST, c -> undone(c, 15), "undo() of none more", STATE, SoupCourt::undo);
+        refusedBehind(c -> undone(c, 15), "undo() of none more", STATE, SoupCourt::undo);
+        SoupCourt x = court(State.AT_ITS_ENDS);
+        undone(x, 40);
+        due("none more of 40", x.undo(), STATE);
+        due("none may be UNDONE", x.count(3), 0);
+    }
 
+    private static void p29redo() {
         sentence("Promise 29", "DONE AGAIN: how many may still be. STATE: none.");
         refused(State.NEW, "redo()", STATE, SoupCourt::redo);
         refused(State.AT_ITS_ENDS, "redo() of none undone", STATE, SoupCourt::redo);
-        dues("all 40", y, (c, v) -> c.redo(), countdown(39));
-        due("none", y.redo(), STATE);
+        SoupCourt x = court(State.AT_ITS_ENDS);
+        undone(x, 40);
+        for (int left = 39; left >= 0; left--) {
+            due("DONE AGAIN", x.redo(), left);
+        }
+        due("none more of 40", x.redo(), STATE);
         dues("two in the midst", court(State.MIDST), (c, v) -> c.redo(), 1, 0, STATE, STATE);
         refusedBehind(State.MIDST, c -> c.mend(74, 0, 9), "redo() behind another CHANGE", STATE, SoupCourt::redo);
     }
@@ -637,17 +718,9 @@ public final class PromiseEdgeTest extends Edges {
         return 0;
     }
 
-    private static long[] countdown(int from) {
-        long[] down = new long[from + 1];
-        for (int i = 0; i <= from; i++) {
-            down[i] = from - i;
-        }
-        return down;
-    }
-
     // ---- acts
 
-    private static void ladles() {
+    private static void p30body() {
         sentence("Promise 30", "A LADLE of a KIND (0 .. 7) is kept: its number. BAD, FULL.");
         edgesOfAll("KIND", 0, 7, SoupCourt::body);
         SoupCourt x = new SoupCourt();
@@ -659,7 +732,9 @@ public final class PromiseEdgeTest extends Edges {
         due("BAD comes first", x.body(-1), BAD);
         due("BODIES", x.count(4), 50);
         refused(State.AT_ITS_ENDS, "body()", FULL, c -> c.body(0));
+    }
 
+    private static void p31act() {
         sentence("Promise 31", "An ACT (0 .. 3) of a LADLE with x. 0, and no TRACE then: no such LADLE, ACT.");
         int[][] none = {{-1, 0}, {3, 0}, {LOW, 0}, {HIGH, 0}, {50, 0}, {0, -1}, {0, 4}, {0, LOW}, {0, HIGH}, {-1, -1}, {3, 4}, {HIGH, LOW}};
         for (int[] each : none) {
@@ -677,7 +752,9 @@ public final class PromiseEdgeTest extends Edges {
         // LADLE 49 is of KIND 0, LADLE 0 of KIND 7
         dues("LADLE 49", y, (c, v) -> c.act(49, v, 7), 56, 112, 7 ^ 49, 112 - (1 ^ 49), 0);
         dues("LADLE 0", y, (c, v) -> c.act(0, v, 7), 10, 20 + (2 - 5), 7 - 5, 20 + (2 - 5) - (1 - 5) - 1, 0);
+    }
 
+    private static void p32trace() {
         sentence("Promise 32", "THE TRACE's i-th body. BAD.");
         edgesOfAll("i", 0, 3, SoupCourt::trace);
         refused(State.NEW, "no TRACE", BAD, c -> c.trace(0));
@@ -686,7 +763,9 @@ public final class PromiseEdgeTest extends Edges {
             bad("i " + i, c -> c.trace(i));
         }
         changesNothing("trace()", c -> c.trace(3));
+    }
 
+    private static void p33keep() {
         sentence("Promise 33", "A SHELF holds nothing (body -1), or a LADLE: 1. BAD.");
         shelfEdges("keep()", (c, v) -> c.keep(v, -1));
         shelfEdges("keep()", (c, v) -> c.keep(v, 0));
@@ -700,7 +779,7 @@ public final class PromiseEdgeTest extends Edges {
 
     // ---- SHELVES
 
-    private static void rows() {
+    private static void p34row() {
         sentence("Promise 34", "A SHELF holds a ROW: 1. BAD (sort, n above 60); -14.");
         shelfEdges("row()", (c, v) -> c.row(v, 4, 60));
         farOff("SHELF", (c, v) -> c.row(v, 0, 1));
@@ -718,7 +797,9 @@ public final class PromiseEdgeTest extends Edges {
         }
         bad("sort comes first", c -> c.row(0, 5, -1));
         bad("SHELF comes first", c -> c.row(6, 0, -1));
+    }
 
+    private static void p35put() {
         sentence("Promise 35", "Element i of a ROW becomes v: 1. BAD, -11, -12, -13.");
         shelfEdges("put()", (c, v) -> c.put(v, 0, 7));
         farOff("SHELF", (c, v) -> c.put(v, 0, 7));
@@ -731,7 +812,9 @@ public final class PromiseEdgeTest extends Edges {
         for (long v : new long[] {0, -1, Long.MIN_VALUE, Long.MAX_VALUE}) {
             taken(State.MIDST, "v " + v, c -> c.put(0, 0, v));
         }
+    }
 
+    private static void p36element() {
         sentence("Promise 36", "Element i of a ROW; Long.MIN_VALUE: BAD, -11 to -13.");
         rowPlaces((c, i) -> c.element(0, i) == Long.MIN_VALUE ? NO_PLACE : c.element(0, i));
         for (int shelf : new int[] {-1, 6, LOW, HIGH, 2, 3, 5}) {
@@ -747,7 +830,6 @@ public final class PromiseEdgeTest extends Edges {
         due("a long that is the least", x.element(0, 0), Long.MIN_VALUE);
         x.put(0, 0, Long.MIN_VALUE + 1);
         due("one more", x.element(0, 0), Long.MIN_VALUE + 1);
-        shift();
     }
 
     /** SHELF 0's ROW has 6 bytes in the midst, 60 at the court's ends. */
@@ -763,7 +845,7 @@ public final class PromiseEdgeTest extends Edges {
         refused("place far above", NO_PLACE, c -> call.on(c, HIGH));
     }
 
-    private static void shift() {
+    private static void p37shift() {
         sentence("Promise 37", "n elements of a ROW from i on come to another one (or the same) from j on, as they all were before: n.");
         for (int sort = 0; sort < 5; sort++) {
             shiftWithin(sort, 0, 1, 59);
@@ -781,7 +863,9 @@ public final class PromiseEdgeTest extends Edges {
         dues("they come", x, (c, v) -> c.element(1, v), 7, 7, 1, 2, 3);
         dues("they stay", x, (c, v) -> c.element(0, v), 1, 2, 3);
         due("none of a ROW of none", x.row(2, 0, 0) + x.shift(2, 0, 2, 0, 0), 1);
+    }
 
+    private static void p37shiftRefusals() {
         sentence("Promise 37", "BAD, -11 (either), -12 (no ROWS, or of unlike sorts), -13.");
         // SHELF 0 and 1: 6 bytes in the midst, 60 at the court's ends
         shelfEdges("shift() from", (c, v) -> c.shift(v, 0, 1, 0, 1));
@@ -834,7 +918,7 @@ public final class PromiseEdgeTest extends Edges {
         dues("as they all were before", x, (c, at) -> c.element(0, at), due);
     }
 
-    private static void taken() {
+    private static void p38taken() {
         sentence("Promise 38", "What a SHELF holds, taken for a LADLE of KIND k (0 .. 7), or under it: its KIND. BAD, -11, -12.");
         // by KIND, the KINDS (bits) that it can be taken for: itself and those above
         int[] takenFor = {1, 2 + 1, 4 + 1, 8 + 4 + 1, 16 + 2 + 1, 32 + 8 + 4 + 1, 64 + 1, 128 + 16 + 2 + 1};
@@ -864,7 +948,7 @@ public final class PromiseEdgeTest extends Edges {
         changesNothing("taken()", c -> c.taken(5, 0));
     }
 
-    private static void count() {
+    private static void p39count() {
         sentence("Promise 39", "How many: 0 HOUSES, 1 NOSES, 2 bytes on THE TAPE, 3 changes that may be UNDONE, 4 BODIES, 5 bodies that ran in the latest act() (all, kept or not). BAD.");
         edgesOfAll("what", 0, 5, SoupCourt::count);
         dues("at first", court(State.NEW), SoupCourt::count, 0, 0, 0, 0, 0, 0, BAD);
